@@ -1239,7 +1239,15 @@ public final class TurnRing {
         private void readFact(Tape in, int depth) {
             boolean bracket = in.sign == '[';
             if (!bracket && in.word != NOT) {
-                readComparison(in);
+                readSum(in);
+                int order = comparisonOf(in.sign);
+                if (order == NO_ORDER) {
+                    in.fail(Tape.CAN_NOT_STAND);
+                }
+                countToken(in);
+                in.advance();
+                readSum(in);
+                emit(order);
             } else if (depth >= DEPTH_MOST) {
                 in.fail(Tape.TOO_DEEP);
             } else if (bracket) {
@@ -1257,24 +1265,14 @@ public final class TurnRing {
             }
         }
 
-        private void readComparison(Tape in) {
-            readSum(in);
-            int order = comparisonOf(in.sign);
-            if (order == NO_ORDER) {
-                in.fail(Tape.CAN_NOT_STAND);
-            }
-            countToken(in);
-            in.advance();
-            readSum(in);
-            emit(order);
-        }
-
         private void readSum(Tape in) {
             int adding = NO_ORDER;
             int timing = NO_ORDER;
             boolean more = true;
             for (int i = 0; more && i <= COUNTED_MOST; i++) {
-                readValue(in);
+                checkValue(in);
+                emit(in.word == NONE ? in.number : -1 - in.word);
+                in.advance();
                 if (timing != NO_ORDER) {
                     emit(timing);
                 }
@@ -1293,18 +1291,14 @@ public final class TurnRing {
             }
         }
 
-        private void readValue(Tape in) {
-            int order = in.number;
-            if (in.word != NONE && in.word < VALUES) {
-                order = -1 - in.word;
-            } else if (in.sign != Tape.NUMBER) {
+        private void checkValue(Tape in) {
+            boolean isWord = in.word != NONE && in.word < VALUES;
+            if (!isWord && in.sign != Tape.NUMBER) {
                 in.fail(Tape.CAN_NOT_STAND);
-            } else if (order == NONE) {
+            } else if (!isWord && in.number == NONE) {
                 in.fail(Tape.BAD_NUMBER);
             }
             countToken(in);
-            in.advance();
-            emit(order);
         }
 
         private static int addingOf(int sign) {
