@@ -50,6 +50,10 @@ public final class ActTests {
         Checks.due("each sort once, together", x.house(0, 4), -2);
         Checks.due("as bits", x.house(0, 3), 10);
         Checks.due("likes it less than what comes", x.house(0, 6), 0);
+        x = Checks.made("ring 7;house 5 1;sight 2 0 0 0;gate 0");
+        Checks.due("12 is 0", x.house(0, 2), 0);
+        Checks.due("sees at 0", x.house(0, 3), 4);
+        Checks.due("a gate at 0", x.house(0, 5), 1);
         x = Checks.made("ring 0;house 0 1;sight 0 1 0 0;loathes 0 0 1");
         Checks.due("0 is more than less than 0", x.house(0, 6), 1);
         x = Checks.made("ring 0;house 0 1;sight 0 0 0 0;sight 0 1 1 1;likes 0 0 1");
@@ -170,6 +174,17 @@ public final class ActTests {
         Checks.due("rate", x.rateOf(0), 1);
         Checks.due("none more", x.undo(), -1);
 
+        x = Checks.made("ring 1;rate 0 0 0;rate 1 1 2");
+        x.hour();
+        x.hour();
+        Checks.due("a step back undone", x.undo(), 1);
+        Checks.due("angle", x.count(4), 10);
+        worn("a step back undone", x, 1, 1, 0, 0, 0, 0, 0, 0, 0, 0, 0, 1);
+        Checks.due("three steps back undone", x.undo(), 0);
+        Checks.due("angle", x.count(4), 1);
+        Checks.due("it was not stopped", x.count(8), 0);
+        worn("three steps back undone", x, 0, 0, 0, 0, 0, 0, 0, 0, 0, 0, 0, 0);
+
         x = Checks.made("ring 0;rate 0 23 6");
         for (int i = 0; i < 25; i++) x.hour();
         Checks.due("the last 20", x.count(11), 20);
@@ -277,6 +292,16 @@ public final class ActTests {
             stopped.hour();
             word(stopped, (String) want[0], (Integer) want[1]);
         }
+        // HOUSE 1 likes most and HOUSE 2 least, one HOUSE alone both
+        TurnRing three = Checks.made("ring 0;house 0 1;house 1 1;house 2 1;sight 0 1 0 0;sight 1 2 0 0;likes 1 0 6;loathes 2 1 8");
+        word(three, "best", 6);
+        word(three, "least", -8);
+        TurnRing good = Checks.made("ring 0;house 0 1;house 1 1;sight 0 0 0 0;sight 0 1 0 0;likes 0 0 6;likes 1 0 8");
+        word(good, "best", 8);
+        word(good, "least", 6);
+        TurnRing bad = Checks.made("ring 0;house 0 1;sight 0 0 0 0;loathes 0 0 6");
+        word(bad, "best", -6);
+        word(bad, "least", -6);
         TurnRing stops = Checks.made(ring);
         stops.stop();
         stops.hour();
@@ -304,7 +329,8 @@ public final class ActTests {
         Checks.due("seed", x.seed(MOST), 0);
         Checks.due("below 0", x.seed(-1), -1);
         Checks.due("below 0", x.seed(LEAST), -1);
-        Checks.due("what it was", x.seed(7), MOST);
+        Checks.due("what it was", x.seed(0), MOST);
+        Checks.due("what it was", x.seed(7), 0);
         Checks.due("x", x.count(12), 7);
     }
 
@@ -363,6 +389,26 @@ public final class ActTests {
         Checks.due("an image stays as it was", x.back(3), 1);
         Checks.due("hour", x.count(5), 6);
 
+        x = Checks.made(RING);
+        x.diary(0, 0, 2, true);
+        x.diary(2, 24, 0, false);
+        int[] turned = {x.turned(0), x.turned(1), x.turned(2)};
+        x.image(1);
+        Checks.ring(x, "ring 0;house 9 9;house 8 9;house 7 9;house 1 4;sight 4 4 4 4;likes 0 0 9;loathes 2 3 3;rate 0 23 0");
+        x.diary(1, 1, 1, true);
+        x.diary(1, 1, 1, true);
+        x.back(1);
+        int[][] want = {{0, 2, 10, 4, 0, 1, 0}, {6, 1, 4, 0, 0, 1, 0}, {3, 3, 1, 0, 0, 0, 0}};
+        for (int h = 0; h < 3; h++) {
+            for (int what = 0; what <= 6; what++) Checks.due("back behind a ring: house " + h + " " + what, x.house(h, what), want[h][what]);
+        }
+        int[] likes = {4, 0, 0, 0, 0, 1, -5, 0, 0, 0, 0, 0, 3, 0, 0};
+        for (int i = 0; i < 15; i++) Checks.due("back behind a ring: likes " + i, x.house(i / 5, 100 + i % 5), likes[i]);
+        for (int h = 0; h < 24; h++) Checks.due("back behind a ring: rateOf " + h, x.rateOf(h), h >= 5 && h <= 7 ? 0 : 1);
+        int[] counts = {3, 4, (1 << 10) + (1 << 4), 0, 10, 0, 0, 0, 0, 0, 2, 0, 0, 0, 6};
+        for (int what = 0; what <= 14; what++) Checks.due("back behind a ring: count " + what, x.count(what), counts[what]);
+        for (int what = 0; what <= 2; what++) Checks.due("back behind a ring: turned " + what, x.turned(what), turned[what]);
+
         TurnRing y = new TurnRing();
         Checks.due("an image without a ring", y.image(2), 0);
         Checks.ring(y, "ring 1;house 1 1");
@@ -376,7 +422,11 @@ public final class ActTests {
         for (int i = 0; i < 249; i++) x.run(0, 96);
         Checks.due("day 996", x.count(6), 996);
         Checks.due("to hour 0 of day 1000", x.run(0, 96), -1);
-        Checks.due("to hour 23 of day 999", x.run(0, 95), 0);
+        Checks.due("to hour 22 of day 999", x.run(0, 94), 0);
+        Checks.due("an hour to the last", x.hour(), 1);
+        Checks.due("undone", x.undo(), 0);
+        Checks.due("no two more", x.run(0, 2), -1);
+        Checks.due("to hour 23 of day 999", x.run(0, 1), 0);
         Checks.due("day", x.count(6), 999);
         Checks.due("hour", x.count(5), 23);
         Checks.due("no hour more", x.hour(), -1);

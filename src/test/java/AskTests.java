@@ -16,6 +16,7 @@ public final class AskTests {
         looks();
         draws();
         nothingChanges();
+        fewerHouses();
         Checks.finish();
     }
 
@@ -32,6 +33,8 @@ public final class AskTests {
         Checks.due("faces 25 hours on", x.faces(0, 25), 3);
         // eight days make eight steps back, and two more on in HOUR 0 of the next
         Checks.due("faces 200 hours on", x.faces(0, 200), Math.floorMod(2 - 8 - 1, 12));
+        Checks.due("sees 200 hours on", x.sees(0, 192), 0);
+        Checks.due("sees 200 hours on", x.sees(0, 200), 0);
         Checks.due("the other house", x.faces(1, 0), 11);
         x.stop();
         Checks.due("stopped: it does not turn in the first", x.faces(0, 1), 2);
@@ -72,6 +75,13 @@ public final class AskTests {
     }
 
     private static void plans() {
+        Checks.due("the first row, asked first of all", Checks.made("ring 0;house 0 1").plan(2, false, 2), -1);
+        // from ANGLE 7: HOUSE 1 likes 1 two steps on, HOUSE 0 likes 1 one step on, HOUSE 2 loathes it there
+        TurnRing far = Checks.made("ring 7;house 0 1;house 4 1;house 2 1;sight 0 8 0 23;sight 1 1 0 23;sight 2 10 0 23;likes 0 0 3;likes 1 1 9;loathes 2 2 4");
+        plan(far, 1, false, 0, -1);
+        plan(far, 2, false, 3 - 4 + 9, 1, 1);
+        plan(far, 3, false, 3 - 4 + 18, 1, 1, 0);
+        plan(far, 2, true, 0, -1, -1);
         // what is liked is two steps on, and only from HOUR 2 on
         TurnRing x = Checks.made("ring 0;house 0 1;sight 0 2 2 23;likes 0 0 3;rate 0 23 6");
         plan(x, 1, false, 0, -1);
@@ -134,6 +144,11 @@ public final class AskTests {
         errand(x, 0, 2, 24, 48, 73);
         // 3 it faces from HOUR 72 on: that is too late
         errand(x, 0, 3, 0, -2, -2);
+        // 48 at most: it faces 1 from HOUR 48 on, or 49
+        x = Checks.made("ring 11;house 0 1;gate 1;rate 0 23 3;rate 23 23 4");
+        errand(x, 0, 1, 0, 48, 48);
+        x = Checks.made("ring 10;house 0 1;gate 1;rate 0 23 3;rate 0 0 4");
+        errand(x, 0, 1, 0, -2, -2);
         // the shorter way round from 11 to 2 is 3
         x = Checks.made("ring 11;house 0 1;gate 11;gate 2;rate 0 23 3;rate 0 0 6");
         errand(x, 0, 11, 1, 0, 4);
@@ -211,6 +226,9 @@ public final class AskTests {
         Checks.due("trade least", x.trade(LEAST), -100000);
         x = Checks.made("ring 0;house 6 1;house 5 1;house 4 1;house 3 1;house 2 1;house 1 1;house 0 1");
         trade(x, 5040, 0, 0, 1, 2, 3, 4, 5, 6);
+        // HOUSE 0 may have 1 or 2, but HOUSE 1 may have nothing but 1
+        x = Checks.made("ring 0;rate 0 23 3;house 0 1;house 1 1;house 2 1;sight 0 1 0 23;sight 1 2 0 23;likes 0 0 2;likes 0 1 1;likes 1 0 1");
+        trade(x, 2, 24 + 24, 2, 1, 0);
         // rounds alone: 0 to 1, 1 to 2, 2 to 0
         x = Checks.made("ring 0;rate 0 23 3;house 0 1;house 1 1;house 2 1;sight 0 1 0 23;sight 1 2 0 23;sight 2 0 0 23;"
                 + "likes 0 0 2;likes 0 2 1;likes 1 1 2;likes 1 0 1;likes 2 2 2;likes 2 1 1");
@@ -244,6 +262,9 @@ public final class AskTests {
         spare(x, 1, 1, 3, 1);
         x.stop();
         spare(x, 2, 2, 3, 0, 2);
+        x = Checks.made("ring 0;rate 0 0 4;rate 1 1 2");
+        x.hour();
+        spare(x, 1, 0, 1, 0);
         int[][] wrong = {{0, 0, 0}, {6, 0, 0}, {1, -1, 0}, {1, 11, 0}, {1, 0, -1}, {1, 0, 6}, {LEAST, LEAST, LEAST}, {MOST, MOST, MOST}};
         for (int[] w : wrong) Checks.due("spare " + w[0] + " " + w[1] + " " + w[2], x.spare(w[0], w[1], w[2]), -1);
     }
@@ -301,6 +322,16 @@ public final class AskTests {
         Checks.due("an eleventh", x.diary(1, 98, 1, false), -2);
         turned(x, 2, 3, -3);
         Checks.due("none then", x.diary(-1, 0, 0, false), 0);
+        // HOUSE 0 faced 7 behind 1, and 0 faced 7 nowhere at first: of ANGLE and rate together 5; HOUSE 1 faced 7 behind 2
+        x.diary(0, 1, 1, true);
+        x.diary(1, 2, 1, true);
+        // ANGLE + rate is 5, ANGLE + twice the rate is 3: the rate is -2, the ANGLE 7
+        turned(x, 1, 7, -2);
+        x.diary(-1, 0, 0, false);
+        x.diary(0, 1, 1, true);
+        // ANGLES 2 to 8 with rates 3 to -3
+        turned(x, 7, 2, 3);
+        x.diary(-1, 0, 0, false);
         int[][] wrong = {{-2, 0, 0}, {2, 0, 0}, {0, -1, 0}, {0, 100, 0}, {0, 0, -1}, {0, 0, 5}, {LEAST, LEAST, LEAST}, {MOST, MOST, MOST}};
         for (int[] w : wrong) Checks.due("diary " + w[0] + " " + w[1] + " " + w[2], x.diary(w[0], w[1], w[2], true), -2);
         Checks.due("nothing happens", x.count(10), 0);
@@ -332,6 +363,8 @@ public final class AskTests {
         Checks.due("look 100", x.look(100, 0), -1);
         Checks.due("look what -1", x.look(0, -1), -1);
         Checks.due("look what 3", x.look(0, 3), -1);
+        x = Checks.made("ring 0;house 0 1;sight 0 0 0 23;sight 0 1 0 23;sight 1 2 0 23");
+        look(x, 0, 0, 0, 70);
         x = Checks.made("ring 0;sight 0 0 0 0");
         look(x, 99, -2, -2, -2);
     }
@@ -346,6 +379,12 @@ public final class AskTests {
         x.stop();
         Checks.due("days: stopped as it is", x.days(2, 1, 0, 1), 0);
         Checks.due("days: then no more", x.days(2, 2, 0, 1), 6);
+
+        // in the HOUR that is then
+        x = Checks.made("ring 0;house 0 1;sight 0 1 1 1;likes 0 0 7");
+        Checks.due("days: behind hour 0", x.days(2, 3, 0, 0), 14);
+        x = Checks.made("ring 0;house 0 1;sight 0 1 0 0;sight 0 1 2 23;likes 0 0 7");
+        Checks.due("days: not in the hour before or next", x.days(1, 3, 0, 0), 0);
 
         // the rows of DRAWS by the document's words
         x = Checks.made("ring 0;rate 0 23 5");
@@ -401,5 +440,35 @@ public final class AskTests {
         for (int i = 0; i < 24; i++) all[27 + i] = x.rateOf(i);
         for (int i = 0; i < 2; i++) all[51 + i] = x.house(i, 0);
         return all;
+    }
+
+    /** Seven HOUSES fill every row; of those that a later RING has not nothing is left. */
+    private static void fewerHouses() {
+        TurnRing x = Checks.made("ring 0;house 0 1;house 1 2;house 2 3;house 3 4;house 4 5;house 5 6;house 6 7;sight 0 0 0 23;sight 1 6 0 23;"
+                + "likes 6 1 9;loathes 0 0 9;likes 5 1 8;rate 0 23 3", "turn stays if liked < 0 or best > 99 or least > 99;turn 1 if votes = 28");
+        Checks.due("who wants it to stay", x.stay(0), 0);
+        x.rate(0, 1);
+        Checks.due("who wants it to stay", x.stay(0), 64);
+        Checks.due("7 of 28", x.stay(1), 0);
+        Checks.due("all like", x.count(7), 0);
+        Checks.due("all votes", x.count(14), 28);
+        Checks.due("plan", x.plan(1, false, 0), 8);
+        Checks.due("plan fair", x.plan(1, true, 0), 0);
+        Checks.due("look", x.look(0, 2), 77);
+        Checks.due("days", x.days(1, 1, 100, 0), 0);
+        Checks.due("run", x.run(0, 2), 2);
+        x.back(x.image(0));
+        Checks.ring(x, "ring 0;house 11 1;sight 0 0 0 23;sight 1 6 0 23;sight 0 1 0 23;sight 1 7 0 23;likes 0 0 2;rate 0 23 3");
+        x.rate(0, 3);
+        Checks.due("one house: who wants it to stay", x.stay(0), 0);
+        Checks.due("one house: all like", x.count(7), 0);
+        Checks.due("one house: all votes", x.count(14), 1);
+        Checks.due("one house: swings", x.swings(0), 1);
+        Checks.due("one house: plan", x.plan(1, false, 0), 2);
+        Checks.due("one house: plan fair", x.plan(2, true, 0), 4);
+        Checks.due("one house: trade", x.trade(0), 1);
+        Checks.due("one house: its slot", x.trade(2), 11);
+        for (int d = 0; d < 12; d++) Checks.due("one house: who faces " + d, x.direction(d, 0), d == 11 ? 0 : -1);
+        Checks.due("one house: look", x.look(0, 2), 70);
     }
 }

@@ -64,6 +64,21 @@ public final class TextTests {
         Checks.due("its slot", x.house(0, 0), 5);
         Checks.due("its votes", x.house(0, 1), 3);
         Checks.due("the tape is empty then", x.count(13), 0);
+        Checks.due("end 0 of none", x.end(0), 0);
+        // what stands behind the end is not read: "ring 11" less a byte, "turn 10" less a byte, "turn hours" less one
+        Checks.tape(x, "ring 11");
+        x.end(6);
+        Checks.due("ring 1", x.ring(), 0);
+        Checks.due("its angle", x.count(4), 1);
+        Checks.tape(x, "turn 10");
+        x.end(6);
+        Checks.due("turn 1", x.rule(), 0);
+        Checks.due("by 1", x.run(0, 1), 2);
+        Checks.tape(x, "turn hours");
+        Checks.due("all of it", x.end(10), 10);
+        x.end(9);
+        Checks.due("turn hour", x.rule(), 1);
+        Checks.due("by 1", x.run(1, 1), 3);
     }
 
     private static void ringTexts() {
@@ -85,6 +100,19 @@ public final class TextTests {
         Checks.ring(x, "ring 0;gate 11;gate 0;gate 11;sight 4 1 2 3;sight 4 1 2 3");
         Checks.due("gates", x.count(2), 1 + (1 << 11));
         Checks.due("sights alike count", x.count(1), 2);
+        Checks.due("the greatest of all", Checks.ring(x, "ring 11;house 11 9;sight 4 11 23 23;sight 4 10 0 0;likes 0 4 9;gate 11;rate 23 23 6"), 1);
+        Checks.due("liked", x.house(0, 4), 9);
+        Checks.due("rate", x.rateOf(23), 3);
+        // nothing is left of what other texts told, those with a FAULT among them
+        Checks.ring(x, "ring 9;house 0 7;sight 0 0 0 23;sight 1 1 0 23;likes 0 0 7;gate 4;rate 0 23 0;x");
+        Checks.ring(x, "ring 0;house 0 1");
+        for (int d = 0; d < 12; d++) {
+            Checks.due("no gate at " + d, x.direction(d, 1), 0);
+            Checks.due("no sight at " + d, x.direction(d, 2), 0);
+        }
+        for (int sort = 0; sort < 5; sort++) Checks.due("no liking of " + sort, x.house(0, 100 + sort), 0);
+        for (int h = 0; h < 24; h++) Checks.due("rate of " + h, x.rateOf(h), 1);
+        Checks.due("no sights", x.count(1), 0);
     }
 
     private static void ringFault(String text, int place, int kind) {
@@ -192,6 +220,15 @@ public final class TextTests {
         for (int what = 0; what <= 14; what++) Checks.due("another ring: count " + what, x.count(what), want[what]);
         for (int spoke = 0; spoke < 12; spoke++) Checks.due("nothing is worn", x.worn(spoke), 0);
         Checks.due("nothing to be undone", x.undo(), -1);
+        // twice more: what stood two RINGS ago is gone too
+        x.stop();
+        x.run(0, 30);
+        x.stop();
+        x.diary(0, 1, 1, true);
+        Checks.ring(x, "ring 4;house 5 5");
+        Checks.due("a third ring", Checks.ring(x, "ring 4;house 5 5"), 1);
+        for (int what = 0; what <= 14; what++) Checks.due("a third ring: count " + what, x.count(what), want[what]);
+        for (int spoke = 0; spoke < 12; spoke++) Checks.due("nothing is worn", x.worn(spoke), 0);
     }
 
     private static void ruleTexts() {
@@ -227,6 +264,8 @@ public final class TextTests {
         ruleFault("ring 0", 0, 0);
         ruleFault("turn", 4, 0);
         ruleFault("turns 1", 0, 0);
+        ruleFault("turnz 1", 0, 0);
+        ruleFault("turn turn", 5, 0);
         ruleFault("turn x", 5, 0);
         ruleFault("turn if", 5, 0);
         ruleFault("turn not", 5, 0);
