@@ -1,9 +1,5 @@
 /** Promises 6 to 15, 29 and 31 to 33: how it is, ACTS, RULES that turn it, acts undone, images. */
 public final class ActTests {
-    /** ANGLE 10: HOUSE 0 faces 10, HOUSE 1 faces 4, HOUSE 2 faces 1. */
-    private static final String RING = "ring 10;house 0 2;house 6 1;house 3 3;sight 0 11 0 23;sight 1 5 6 12;sight 0 1 1 3;"
-            + "sight 2 10 0 0;likes 0 0 4;loathes 1 1 5;likes 1 0 1;likes 2 2 3;gate 10;gate 4;rate 5 7 3";
-
     private static final int LEAST = Integer.MIN_VALUE;
     private static final int MOST = Integer.MAX_VALUE;
 
@@ -24,7 +20,7 @@ public final class ActTests {
     }
 
     private static void houses() {
-        TurnRing x = Checks.made(RING);
+        TurnRing x = Checks.made(Stands.RING);
         int[][] want = {{0, 2, 10, 4, 0, 1, 0}, {6, 1, 4, 0, 0, 1, 0}, {3, 3, 1, 0, 0, 0, 0}};
         for (int h = 0; h < 3; h++) {
             for (int what = 0; what <= 6; what++) Checks.due("house " + h + " " + what, x.house(h, what), want[h][what]);
@@ -61,7 +57,7 @@ public final class ActTests {
     }
 
     private static void directions() {
-        TurnRing x = Checks.made(RING);
+        TurnRing x = Checks.made(Stands.RING);
         for (int d = 0; d < 12; d++) {
             Checks.due("who faces " + d, x.direction(d, 0), d == 10 ? 0 : d == 4 ? 1 : d == 1 ? 2 : -1);
             Checks.due("gate at " + d, x.direction(d, 1), d == 10 || d == 4 ? 1 : 0);
@@ -82,7 +78,7 @@ public final class ActTests {
     }
 
     private static void ratesAndSpokes() {
-        TurnRing x = Checks.made(RING);
+        TurnRing x = Checks.made(Stands.RING);
         for (int h = 0; h < 24; h++) Checks.due("rateOf " + h, x.rateOf(h), h >= 5 && h <= 7 ? 0 : 1);
         Checks.due("rateOf -1", x.rateOf(-1), -1000);
         Checks.due("rateOf 24", x.rateOf(24), -1000);
@@ -120,7 +116,7 @@ public final class ActTests {
     }
 
     private static void rateSwapStop() {
-        TurnRing x = Checks.made(RING);
+        TurnRing x = Checks.made(Stands.RING);
         Checks.due("rate: which it was", x.rate(0, -3), 1);
         Checks.due("rate: which it was", x.rate(0, 3), -3);
         Checks.due("rateOf", x.rateOf(0), 3);
@@ -129,7 +125,7 @@ public final class ActTests {
         Checks.due("acts", x.count(11), 2);
         Checks.due("turns by it", x.hour(), 1);
 
-        x = Checks.made(RING);
+        x = Checks.made(Stands.RING);
         Checks.due("swap", x.swap(0, 2), true);
         Checks.due("slot", x.house(0, 0), 3);
         Checks.due("slot", x.house(2, 0), 0);
@@ -140,7 +136,7 @@ public final class ActTests {
         Checks.due("swap with none", x.swap(MOST, LEAST), false);
         Checks.due("acts", x.count(11), 1);
 
-        x = Checks.made(RING);
+        x = Checks.made(Stands.RING);
         Checks.due("stop", x.stop(), true);
         Checks.due("stopped", x.count(8), 1);
         Checks.due("stop again", x.stop(), false);
@@ -152,7 +148,7 @@ public final class ActTests {
     }
 
     private static void undone() {
-        TurnRing x = Checks.made(RING);
+        TurnRing x = Checks.made(Stands.RING);
         Checks.due("none", x.undo(), -1);
         x.rate(0, 3);
         x.swap(0, 1);
@@ -200,7 +196,7 @@ public final class ActTests {
     }
 
     private static void byRules() {
-        TurnRing x = Checks.made(RING, "turn 0 - 1 if hour < 2;turn rate * 2", "turn 2 if hour > 90", "turn 99999", "turn 0 - 99999");
+        TurnRing x = Checks.made(Stands.RING, "turn 0 - 1 if hour < 2;turn rate * 2", "turn 2 if hour > 90", "turn 99999", "turn 0 - 99999");
         x.hour();
         // HOUR 1: back to 10; 2, 3, 4: two each; 5: none
         Checks.due("run", x.run(0, 5), 4);
@@ -224,7 +220,7 @@ public final class ActTests {
         Checks.due("run without a ring", x.run(0, 1), -1);
     }
 
-    /** How far a RULE turns in one HOUR of a RING, by its ANGLE behind it less 5 (ahead of it 5). */
+    /** How far a RULE turns in one HOUR of a Stands.RING, by its ANGLE behind it less 5 (ahead of it 5). */
     private static void turns(String sum, int want) {
         TurnRing x = Checks.made("ring 5", "turn " + sum);
         Checks.due("turn " + sum, x.run(0, 1) - 5, want);
@@ -335,7 +331,7 @@ public final class ActTests {
     }
 
     private static void counts() {
-        TurnRing x = Checks.made(RING, "turn 1");
+        TurnRing x = Checks.made(Stands.RING, "turn 1");
         x.hour();
         x.stop();
         x.seed(11);
@@ -350,7 +346,7 @@ public final class ActTests {
     }
 
     private static void images() {
-        TurnRing x = Checks.made(RING, "turn 1");
+        TurnRing x = Checks.made(Stands.RING, "turn 1");
         Checks.due("image", x.image(0), 0);
         Checks.due("image -1", x.image(-1), -1);
         Checks.due("image 4", x.image(4), -1);
@@ -389,7 +385,7 @@ public final class ActTests {
         Checks.due("an image stays as it was", x.back(3), 1);
         Checks.due("hour", x.count(5), 6);
 
-        x = Checks.made(RING);
+        x = Checks.made(Stands.RING);
         x.diary(0, 0, 2, true);
         x.diary(2, 24, 0, false);
         int[] turned = {x.turned(0), x.turned(1), x.turned(2)};

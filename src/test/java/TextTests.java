@@ -171,12 +171,6 @@ public final class TextTests {
         ringFault("ring 0;rate 0 0 7", 16, 1);
     }
 
-    private static String times(String text, int n) {
-        StringBuilder b = new StringBuilder();
-        for (int i = 0; i < n; i++) b.append(text);
-        return b.toString();
-    }
-
     private static void ringLimits() {
         TurnRing x = new TurnRing();
         StringBuilder seven = new StringBuilder("ring 0");
@@ -184,11 +178,11 @@ public final class TextTests {
         Checks.due("seven houses", Checks.ring(x, seven.toString()), 7);
         ringFault(seven + ";house 7 1", seven.length() + 1, 4);
         ringFault(seven + ";houses 7 1", seven.length() + 1, 0);
-        String twelve = "ring 0" + times(";sight 0 0 0 0", 12);
+        String twelve = "ring 0" + Checks.times(";sight 0 0 0 0", 12);
         Checks.due("twelve sights", Checks.ring(x, twelve), 0);
         Checks.due("twelve sights", x.count(1), 12);
         ringFault(twelve + "; sight 0 0 0 0", twelve.length() + 2, 4);
-        String forty = "ring 0" + times(";gate 0", 39);
+        String forty = "ring 0" + Checks.times(";gate 0", 39);
         Checks.due("forty clauses", Checks.ring(x, forty), 0);
         ringFault(forty + ";gate 0", forty.length() + 1, 4);
         ringFault(forty + ";gates 0", forty.length() + 1, 0);
@@ -305,17 +299,17 @@ public final class TextTests {
 
     private static void ruleLimits() {
         TurnRing x = new TurnRing();
-        String ten = "turn 1 if " + times("[", 10) + "1=1" + times("]", 10);
+        String ten = "turn 1 if " + Checks.times("[", 10) + "1=1" + Checks.times("]", 10);
         Checks.due("ten deep", Checks.rule(x, ten), 0);
-        ruleFault("turn 1 if " + times("[", 11) + "1=1" + times("]", 11), 20, 2);
-        Checks.due("ten nots", Checks.rule(x, "turn 1 if " + times("not ", 10) + "1=1"), 1);
-        ruleFault("turn 1 if " + times("not ", 11) + "1=1", 50, 2);
-        ruleFault("turn 1 if " + times("not[", 5) + "[1=1", 30, 2);
-        ruleFault("turn 1 if " + times("not[", 5) + "not 1=1", 30, 2);
-        ruleFault("turn 1 if " + times("[", 10) + "nots=1", 20, 0);
+        ruleFault("turn 1 if " + Checks.times("[", 11) + "1=1" + Checks.times("]", 11), 20, 2);
+        Checks.due("ten nots", Checks.rule(x, "turn 1 if " + Checks.times("not ", 10) + "1=1"), 1);
+        ruleFault("turn 1 if " + Checks.times("not ", 11) + "1=1", 50, 2);
+        ruleFault("turn 1 if " + Checks.times("not[", 5) + "[1=1", 30, 2);
+        ruleFault("turn 1 if " + Checks.times("not[", 5) + "not 1=1", 30, 2);
+        ruleFault("turn 1 if " + Checks.times("[", 10) + "nots=1", 20, 0);
         Checks.due("ten deep again and again", Checks.rule(x, ten + ";" + ten + " and not 1=1 or [[1=1]]"), 2);
 
-        String sixty = "turn 1" + times("+1", 59);
+        String sixty = "turn 1" + Checks.times("+1", 59);
         Checks.due("sixty values", Checks.rule(x, sixty), 3);
         ruleFault(sixty + " + 1", sixty.length() + 3, 3);
         ruleFault(sixty + "+ hour", sixty.length() + 2, 3);
@@ -324,12 +318,12 @@ public final class TextTests {
         ruleFault(sixty + ";turn 1", sixty.length() + 6, 3);
         ruleFault(sixty + "+", sixty.length() + 1, 0);
         // 58 values, one more and its SIGN make 60
-        String facts = "turn 1" + times("+1", 57) + " if 1";
+        String facts = "turn 1" + Checks.times("+1", 57) + " if 1";
         ruleFault(facts + " = 1", facts.length() + 3, 3);
-        ruleFault("turn 1" + times("+1", 58) + " if 1 <= 1", 5 + 59 * 2 - 1 + 4 + 2, 3);
-        Checks.due("a fact of 3 and 57", Checks.rule(x, "turn 1" + times("+1", 56) + " if 1 = 1"), 4);
+        ruleFault("turn 1" + Checks.times("+1", 58) + " if 1 <= 1", 5 + 59 * 2 - 1 + 4 + 2, 3);
+        Checks.due("a fact of 3 and 57", Checks.rule(x, "turn 1" + Checks.times("+1", 56) + " if 1 = 1"), 4);
 
-        String twelve = "turn 1" + times(";turn 1", 11);
+        String twelve = "turn 1" + Checks.times(";turn 1", 11);
         Checks.due("twelve clauses", Checks.rule(x, twelve), 5);
         ruleFault(twelve + "; turn 1", twelve.length() + 2, 4);
         ruleFault(twelve + ";turns 1", twelve.length() + 1, 0);

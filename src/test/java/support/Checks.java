@@ -2,14 +2,32 @@
 final class Checks {
     private static int wrong = 0;
     private static int held = 0;
+    private static String sentence = "";
+    private static int heldAhead = 0;
 
     private Checks() { }
+
+    /** The sentence of the document that the checks from here on hold the class to. */
+    static void sentence(String words) {
+        endSentence();
+        sentence = words;
+        heldAhead = held;
+    }
+
+    private static void endSentence() {
+        if (!sentence.isEmpty() && held == heldAhead) {
+            wrong++;
+            System.out.println("nothing is held against \"" + sentence + "\"");
+        }
+        sentence = "";
+    }
 
     static void due(String call, long got, long want) {
         held++;
         if (got != want) {
             wrong++;
-            System.out.println(call + " answered " + got + ", due is " + want);
+            String under = sentence.isEmpty() ? "" : " (\"" + sentence + "\")";
+            System.out.println(call + " answered " + got + ", due is " + want + under);
         }
     }
 
@@ -19,6 +37,7 @@ final class Checks {
 
     /** Ends the program, with exit code 1 if an answer was not as due. */
     static void finish() {
+        endSentence();
         System.out.println(wrong == 0 ? held + " answers are as due" : wrong + " of " + held + " answers are not as due");
         if (wrong > 0) System.exit(1);
     }
@@ -26,6 +45,12 @@ final class Checks {
     /** What ring() and rule() answer to a FAULT. */
     static int fault(int place, int kind) {
         return -2 - (1 + 8 * place + kind);
+    }
+
+    static String times(String text, int n) {
+        StringBuilder b = new StringBuilder();
+        for (int i = 0; i < n; i++) b.append(text);
+        return b.toString();
     }
 
     static void tape(TurnRing x, String text) {
