@@ -22,6 +22,7 @@ public final class ActBounds {
         counts();
         imageMade();
         imageGoneBackTo();
+        manyCalls();
         Checks.finish();
     }
 
@@ -163,6 +164,12 @@ public final class ActBounds {
     // ---- Terms II: an HOUR goes by; promise 10
 
     private static void anHour() {
+        Checks.sentence("An HOUR goes by: the ring turns by the rate of that HOUR");
+        TurnRing each = Checks.made("ring 0;rate 0 0 6;rate 1 1 3;rate 2 2 0;rate 3 3 5;rate 4 22 3;rate 23 23 2");
+        int[] angles = {3, 3, 0, 2};
+        for (int h = 0; h < 24; h++) Checks.due("behind HOUR " + h, each.hour(), h < 4 ? angles[h] : h < 23 ? 2 : 1);
+        Checks.due("behind HOUR 0 of the next DAY", each.hour(), 4);
+
         Checks.sentence("as many steps as it says (less than 0: the other way), in each ANGLE is one more (one less; 0 behind 11), and the spoke at the ANGLE it had is worn one more");
         for (int angle = 0; angle < 12; angle++) {
             for (int rate = -3; rate <= 3; rate++) {
@@ -242,12 +249,12 @@ public final class ActBounds {
 
     private static void rateAct() {
         Checks.sentence("RATE of an HOUR (0 to 23), -3 to 3: which it was");
-        TurnRing x = Checks.made("ring 0");
         for (int h = 0; h < 24; h++) {
-            Checks.due("rate of " + h, x.rate(h, h % 7 - 3), 1);
-            for (int other = 0; other < 24; other++) Checks.due("rateOf " + other, x.rateOf(other), other <= h ? other % 7 - 3 : 1);
+            TurnRing one = Checks.made("ring 0");
+            Checks.due("rate of " + h, one.rate(h, -3), 1);
+            for (int other = 0; other < 24; other++) Checks.due("rateOf " + other, one.rateOf(other), other == h ? -3 : 1);
         }
-        x = Checks.made("ring 0");
+        TurnRing x = Checks.made("ring 0");
         int before = 1;
         for (int rate = -3; rate <= 3; rate++) {
             Checks.due("which it was", x.rate(23, rate), before);
@@ -639,5 +646,16 @@ public final class ActBounds {
         Checks.due("no RING", x.rateOf(0), -1000);
         Checks.due("no HOUSE", x.count(0), 0);
         Checks.due("x", x.count(12), 3);
+    }
+
+    private static void manyCalls() {
+        Checks.sentence("An object is used for at most 512 calls after it has been made");
+        TurnRing x = new TurnRing();
+        // "ring 0;rate 0 23 5", and its two last bytes cut off
+        x.feed(0x72696e67, 0x20303b72, 0x61746520, 0x30203233, 0x20352020);
+        x.end(18);
+        Checks.due("ring", x.ring(), 0);
+        for (int call = 4; call < 512; call++) Checks.due("call " + call, x.hour(), 2 * (call - 3) % 12);
+        Checks.due("call 512", x.undo(), 19);
     }
 }

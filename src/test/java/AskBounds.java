@@ -59,18 +59,20 @@ public final class AskBounds {
         Checks.sentence("n HOURS on it has turned by the rates told, STOPS as they are.) FACES, SEES of a HOUSE n HOURS on (0 to 200).");
         String text = "ring 10;house 5 1;sight 0 3 0 23;sight 1 4 0 11;sight 2 9 12 23;sight 4 11 5 5;rate 0 3 6;rate 4 9 0;rate 10 10 3;rate 23 23 1";
         for (int stopped = 0; stopped <= 1; stopped++) {
-            TurnRing x = Checks.made(text);
-            TurnRing y = Checks.made(text);
-            x.hour();
-            y.hour();
-            if (stopped == 1) {
-                x.stop();
-                y.stop();
-            }
-            for (int n = 0; n <= 200; n++) {
-                Checks.due("faces " + n + " hours on", x.faces(0, n), y.house(0, 2));
-                Checks.due("sees " + n + " hours on", x.sees(0, n), y.house(0, 3));
+            for (int what = 2; what <= 3; what++) {
+                TurnRing x = Checks.made(text);
+                TurnRing y = Checks.made(text);
+                x.hour();
                 y.hour();
+                if (stopped == 1) {
+                    x.stop();
+                    y.stop();
+                }
+                for (int n = 0; n <= 200; n++) {
+                    int got = what == 2 ? x.faces(0, n) : x.sees(0, n);
+                    Checks.due((what == 2 ? "faces " : "sees ") + n + " hours on", got, y.house(0, what));
+                    y.hour();
+                }
             }
         }
         TurnRing swapped = Checks.made("ring 0;house 3 1;house 5 1;sight 0 3 0 0;sight 1 5 0 0");

@@ -18,6 +18,7 @@ public final class RingBounds {
         numbers();
         wordsAndBlanks();
         endsAndBytes();
+        badNumbersAndClauses();
         severalFaults();
         ringTakesPlace();
         Checks.finish();
@@ -405,6 +406,26 @@ public final class RingBounds {
             if (!mayStand) fault("ring 3^" + (char) c, 0);
         }
         fault("ring 3;^x", 0);
+    }
+
+    private static void badNumbersAndClauses() {
+        Checks.sentence("1 a NUMBER of more digits, or not as told (a SLOT that is taken)");
+        fault("ring   ^000000", 1);
+        fault("ring   ^12", 1);
+        fault("ring 0;house 7 1;house 8 1;house ^7 1", 1);
+        fault("ring 0;house 7 1;house ^7 10", 1);
+        fault("ring 0;house 7 1;house ^7", 1);
+        fault("ring 0;house 7 1;house 8 ^0", 1);
+        fault("ring 0;house 7 ^000001", 1);
+
+        Checks.sentence("4 one CLAUSE too many, a second ring, another CLAUSE ahead of it, an eighth HOUSE, a 13th SIGHT (at its first byte)");
+        fault("ring 0" + Checks.times(";gate 0", 39) + "; ^gate 0", 4);
+        fault("ring 0; ^ring 0", 4);
+        fault(" ^gate 0;ring 0", 4);
+        String seven = "ring 0;house 0 1;house 1 1;house 2 1;house 3 1;house 4 1;house 5 1;house 6 1";
+        fault(seven + "; ^house 7 1", 4);
+        fault(seven + "; ^house 0 1", 4);
+        fault("ring 0" + Checks.times(";sight 0 0 0 0", 12) + "; ^sight 0 0 0 0", 4);
     }
 
     private static void severalFaults() {

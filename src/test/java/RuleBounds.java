@@ -14,6 +14,7 @@ public final class RuleBounds {
         depth();
         valuesAndFacts();
         endsAndBytes();
+        kindsOfFaults();
         severalFaults();
         Checks.finish();
     }
@@ -481,6 +482,28 @@ public final class RuleBounds {
             boolean mayFollowFact = mayFollow || c == ']';
             if (!mayFollowFact) fault("turn 3 if [3=3^" + (char) c, 0);
         }
+    }
+
+    private static void kindsOfFaults() {
+        Checks.sentence("1 a NUMBER of more digits, or not as told (a SLOT that is taken)");
+        fault("turn   ^000000", 1);
+        fault("turn 1 if 1 <   ^100000", 1);
+        taken("turn 99999 if 99999 < 99999");
+
+        Checks.sentence("2 too deep (at the sign that opens, or the word not)");
+        fault("turn 1 if " + Checks.times("not ", 10) + "  ^[1=1]", 2);
+        fault("turn 1 if " + Checks.times("[", 10) + "  ^not 1=1", 2);
+        taken("turn 1 if " + Checks.times("[", 9) + "  not 1=1" + Checks.times("]", 9));
+
+        Checks.sentence("3 one VALUE or FACT too many (at its first byte; of a FACT at its SIGN)");
+        fault("turn 1" + Checks.times("+1", 59) + "+  ^12345", 3);
+        fault("turn 1" + Checks.times("+1", 59) + "+  ^stops", 3);
+        fault("turn 1" + Checks.times("+1", 58) + " if 12345  ^>= 1", 3);
+        taken("turn 1" + Checks.times("+1", 56) + " if 12345  >= 1");
+
+        Checks.sentence("4 one CLAUSE too many, a second ring, another CLAUSE ahead of it, an eighth HOUSE, a 13th SIGHT (at its first byte)");
+        fault("turn 1" + Checks.times(";turn 1", 11) + ";  ^turn 1", 4);
+        fault("turn 1 if 1=1" + Checks.times(";turn 1", 11) + ";^turn 1 if 1=1", 4);
     }
 
     private static void severalFaults() {
