@@ -294,6 +294,19 @@ public final class ActBounds {
             }
         }
 
+        Checks.sentence("SWAP (two HOUSES their SLOTS)");
+        TurnRing faced = Checks.made("ring 11;house 0 1;house 11 1;sight 0 11 0 23;sight 1 10 0 23;gate 10");
+        faced.hour();
+        Checks.due("swap", faced.swap(1, 0), true);
+        Checks.due("HOUSE 0 faces what HOUSE 1 did", faced.house(0, 2), 11);
+        Checks.due("HOUSE 1 faces what HOUSE 0 did", faced.house(1, 2), 0);
+        Checks.due("ANGLE stays", faced.count(4), 0);
+        Checks.due("HOUR stays", faced.count(5), 1);
+        Checks.due("swapped again, the other way round", faced.swap(0, 1), true);
+        Checks.due("SLOT of HOUSE 0 as it was", faced.house(0, 0), 0);
+        Checks.due("SLOT of HOUSE 1 as it was", faced.house(1, 0), 11);
+        Checks.due("each is an ACT", faced.count(11), 3);
+
         Checks.sentence("false, and nothing happens, without these (unlike)");
         int[][] wrong = {{0, 0}, {2, 2}, {0, 3}, {3, 0}, {-1, 0}, {0, -1}, {3, 3}, {-1, -1}, {6, 7}, {LEAST, 0}, {0, LEAST}, {MOST, 1}, {1, MOST}};
         for (int[] w : wrong) Stands.refused("swap " + w[0] + " " + w[1], y -> y.swap(w[0], w[1]) ? 1 : 0, 0);
@@ -315,6 +328,17 @@ public final class ActBounds {
             Checks.due("stopped no more", x.count(8), 0);
             Checks.due("it turns", x.hour(), angle + 1);
         }
+
+        Checks.sentence("STOP: true");
+        Checks.due("stop without HOUSES", Stands.houseless().stop(), true);
+        x = Checks.made(Stands.RING);
+        Checks.due("stop", x.stop(), true);
+        Checks.due("how often", x.count(9), 1);
+        Checks.due("ANGLE stays", x.count(4), 10);
+        Checks.due("HOUR stays", x.count(5), 0);
+        Checks.due("undone", x.undo(), 0);
+        Checks.due("stop again", x.stop(), true);
+        Checks.due("how often", x.count(9), 1);
 
         Checks.sentence("false, and nothing happens, without a RING, or if it is STOPPED");
         Stands.refused("stop", y -> y.stop() ? 1 : 0, 0);
@@ -346,6 +370,20 @@ public final class ActBounds {
     }
 
     private static void lastTwenty() {
+        Checks.sentence("ACTS: an HOUR;");
+        TurnRing each = Checks.made(Stands.RING, "turn 1");
+        Checks.due("an HOUR", each.hour(), 11);
+        Checks.due("is an ACT", each.count(11), 1);
+        each.seed(5);
+        each.diary(0, 1, 1, true);
+        each.diary(-1, 0, 0, true);
+        each.image(0);
+        Checks.tape(each, "turn 2");
+        each.rule();
+        Checks.due("what is told, drawn and kept is none", each.count(11), 1);
+        each.run(0, 1);
+        Checks.due("an HOUR by a RULE is none", each.count(11), 0);
+
         Checks.sentence("The last 20 can be UNDONE, the last first.");
         int[] many = {1, 19, 20, 21, 22, 23, 24, 25, 39, 40, 41, 45};
         for (int n : many) {
@@ -430,7 +468,7 @@ public final class ActBounds {
     }
 
     private static void byRule() {
-        Checks.sentence("in each the rate is the SUM of the first CLAUSE without a TEST, or whose TEST holds (0 without), held to -3 to 3 (if it is not STOPPED)");
+        Checks.sentence("BY A RULE n HOURS: in each the rate is the SUM of the first CLAUSE without a TEST, or whose TEST holds (0 without), held to -3 to 3 (if it is not STOPPED)");
         Checks.due("the first without a test", turnsBy("turn 1;turn 2"), 1);
         Checks.due("the first that holds", turnsBy("turn 1 if 1 = 2;turn 2 if 1 = 1;turn 3"), 2);
         Checks.due("the last", turnsBy("turn 1 if 1 = 2;turn 2 if 1 = 3;turn 3"), 3);

@@ -241,7 +241,7 @@ public final class AskBounds {
     }
 
     private static void plansRefused() {
-        Checks.sentence("what 0: how much, 1 to 5: the rate of that HOUR (-2: so many there are not).");
+        Checks.sentence("PLAN (fair: FAIR) for n HOURS what 0: how much, 1 to 5: the rate of that HOUR (-2: so many there are not).");
         for (int n = 1; n <= 5; n++) {
             for (int what = 0; what <= 5; what++) {
                 boolean there = what <= n;
@@ -306,7 +306,7 @@ public final class AskBounds {
             }
         }
 
-        Checks.sentence("and is back at the first HOUR from then on at whose begin it FACES that one (of all gates the soonest; 96 HOURS from now at most)");
+        Checks.sentence("and is back at the first HOUR from then on at whose begin it FACES that one (of all gates the soonest; 96 HOURS from now at most): HOURS till one leaves, till one is back.");
         TurnRing x = Checks.made("ring 0;house 0 1;gate 0;gate 4");
         // behind 1 one can be at 4 in HOUR 5, when it is gone by: 16; but it comes to 0 in HOUR 12
         errand("0 is sooner", x, 0, 1, 0, 12);
@@ -496,7 +496,7 @@ public final class AskBounds {
         Checks.due("stopped: t steps all the same", x.spare(4, 7, 0), 2);
         Checks.due("stopped: the first row", x.spare(4, 7, 1), 1);
 
-        Checks.sentence("what 0: how much, 1 to 5: the rate of that HOUR (-2: so many there are not); -2: it can't be. NONE without these, or a RING.");
+        Checks.sentence("SPARE what 0: how much, 1 to 5: the rate of that HOUR (-2: so many there are not); -2: it can't be. NONE without these, or a RING.");
         int[][] wrong = {{0, 0, 0}, {6, 0, 0}, {-1, 0, 0}, {1, -1, 0}, {1, 11, 0}, {5, 11, 0}, {1, 0, -1}, {1, 0, 6}, {6, 11, 6},
             {LEAST, 0, 0}, {MOST, 0, 0}, {1, LEAST, 0}, {1, MOST, 0}, {1, 0, LEAST}, {1, 0, MOST}};
         for (int[] w : wrong) Stands.refused("spare " + w[0] + " " + w[1] + " " + w[2], y -> y.spare(w[0], w[1], w[2]), -1);
@@ -574,7 +574,7 @@ public final class AskBounds {
         Checks.due("ANGLE 3, 3 times which rate is 9", x.turned(1), 3);
         Checks.due("rate 3, not -1", x.turned(2), -1);
 
-        Checks.sentence("(house NONE: there is none then, 0; n 0 to 99)");
+        Checks.sentence("A line of DIARY (house NONE: there is none then, 0; n 0 to 99)");
         x = Stands.rich();
         Checks.due("none", x.diary(-1, 0, 0, true), 0);
         Checks.due("lines", x.count(10), 0);

@@ -36,6 +36,9 @@ public final class RingBounds {
     }
 
     private static void newObject() {
+        Checks.sentence("The constants: `NONE = -1`: None.");
+        Checks.due("NONE", TurnRing.NONE, -1);
+
         Checks.sentence("No RING, no RULES.");
         TurnRing x = new TurnRing();
         for (int what = 0; what <= 14; what++) Checks.due("new: count " + what, x.count(what), 0);
@@ -429,7 +432,7 @@ public final class RingBounds {
     }
 
     private static void severalFaults() {
-        Checks.sentence("FAULTS, the first along the text, 1 + 8 * its place");
+        Checks.sentence("FAULTS, the first along the text, 1 + 8 * its place and:");
         fault("ring ^12;house 12 1", 1);
         fault("ring 0;^houses ;ring 0", 0);
         fault("ring 0;gate ^;x", 0);

@@ -507,7 +507,7 @@ public final class RuleBounds {
     }
 
     private static void severalFaults() {
-        Checks.sentence("FAULTS, the first along the text, 1 + 8 * its place");
+        Checks.sentence("FAULTS, the first along the text, 1 + 8 * its place and:");
         fault("turn ^x;turn 123456", 0);
         fault("turn ^123456;turn x", 1);
         fault("turn 1 if " + Checks.times("[", 10) + "^[" + "123456", 2);
