@@ -437,7 +437,7 @@ public final class TurnRing {
             boolean stopped = now.stopped;
             for (int t = 0; t < n; t++) {
                 x = nextDraw(x);
-                stopped |= x / 65536 % 100 < p;
+                stopped = stopped || x / 65536 % 100 < p;
                 int rate = stopped ? 0 : now.rates[now.hourOn(t)];
                 stopped = false;
                 angle = wrapped(angle + rate);
@@ -776,7 +776,8 @@ public final class TurnRing {
         final int[] house = new int[DIARY_MOST];
         final int[] after = new int[DIARY_MOST];
         final int[] sort = new int[DIARY_MOST];
-        final boolean[] seen = new boolean[DIARY_MOST];
+        /** 1 if it was seen, else 0. */
+        final int[] seen = new int[DIARY_MOST];
 
         void copyFrom(Diary from) {
             lines = from.lines;
@@ -790,7 +791,7 @@ public final class TurnRing {
             house[lines] = whose;
             after[lines] = n;
             sort[lines] = which;
-            seen[lines] = was;
+            seen[lines] = was ? 1 : 0;
             lines++;
         }
     }
@@ -1615,7 +1616,7 @@ public final class TurnRing {
             Diary diary = ring.diary;
             for (int i = 0; i < diary.lines; i++) {
                 int sorts = sortsSeen(ring, diary.house[i], diary.after[i], firstAngle, itsRate);
-                if ((sorts >> diary.sort[i] & 1) != 0 != diary.seen[i]) {
+                if ((sorts >> diary.sort[i] & 1) != diary.seen[i]) {
                     return false;
                 }
             }
