@@ -1,15 +1,22 @@
 import java.io.IOException;
+import java.lang.reflect.Constructor;
+import java.lang.reflect.Executable;
+import java.lang.reflect.Field;
+import java.lang.reflect.Method;
 import java.nio.charset.StandardCharsets;
 import java.nio.file.Files;
 import java.nio.file.Path;
 import java.util.ArrayList;
 import java.util.List;
+import java.util.Set;
+import java.util.TreeSet;
 import java.util.regex.Matcher;
 import java.util.regex.Pattern;
 
 /**
  * No sentence of the document is left without a test: all its words, from 'Terms' to the last
- * promise, are quoted by the Bounds tests, and what these quote stands there. Run from the project's folder.
+ * promise, are quoted by the Bounds tests, and what these quote stands there; and its face is the
+ * class's. Run from the project's folder.
  */
 public final class DocTests {
     private static final String DOC = "../shared/DOC.md";
@@ -36,7 +43,34 @@ public final class DocTests {
             if (title.startsWith("Promise")) promises++;
         }
         Checks.due("promises", promises, 33);
+        face(read(DOC));
         Checks.finish();
+    }
+
+    /** 'The public face', line by line, and what is public in the class: the same. */
+    private static void face(String doc) {
+        Matcher block = Pattern.compile("(?s)## The public face\\s+```java\n(.*?)```").matcher(doc);
+        Checks.due("the document shows the face", block.find(), true);
+        Set<String> told = new TreeSet<>();
+        for (String line : block.group(1).split("\n")) {
+            // parameters by their types alone, a constant with its value
+            String words = line.trim().replaceAll("\\b(int|boolean) \\w+(?=[,)])", "$1");
+            if (words.startsWith("public") && words.endsWith(";")) told.add(words);
+        }
+        Set<String> shown = new TreeSet<>();
+        for (Field f : TurnRing.class.getFields()) shown.add("public static final int " + f.getName() + " = " + TurnRing.NONE + ";");
+        for (Constructor<?> c : TurnRing.class.getConstructors()) shown.add("public TurnRing(" + types(c) + ");");
+        for (Method m : TurnRing.class.getMethods()) {
+            if (m.getDeclaringClass() == TurnRing.class) shown.add("public " + m.getReturnType() + " " + m.getName() + "(" + types(m) + ");");
+        }
+        for (String member : told) Checks.due("the class has " + member, shown.contains(member), true);
+        for (String member : shown) Checks.due("the document has " + member, told.contains(member), true);
+    }
+
+    private static String types(Executable member) {
+        List<String> names = new ArrayList<>();
+        for (Class<?> type : member.getParameterTypes()) names.add(type.getName());
+        return String.join(", ", names);
     }
 
     private static String read(String path) throws IOException {

@@ -46,6 +46,10 @@ public final class TreeTests extends TreePathScanner<Void, Void> {
             "java.util.Arrays", Set.of("copyOf", "copyOfRange", "fill"),
             "java.lang.Object", Set.of("<init>"));
 
+    /** What stands nowhere, by rules 2 and 6; and do, whose end can't be seen ahead of it. */
+    private static final Set<Tree.Kind> NEVER = Set.of(Tree.Kind.LAMBDA_EXPRESSION, Tree.Kind.MEMBER_REFERENCE, Tree.Kind.THROW,
+            Tree.Kind.TRY, Tree.Kind.SYNCHRONIZED, Tree.Kind.ASSERT, Tree.Kind.DO_WHILE_LOOP);
+
     private static final Set<Tree.Kind> NUMBERS = Set.of(Tree.Kind.INT_LITERAL, Tree.Kind.LONG_LITERAL, Tree.Kind.CHAR_LITERAL);
 
     private final Trees trees;
@@ -92,6 +96,12 @@ public final class TreeTests extends TreePathScanner<Void, Void> {
         return trees.getElement(new TreePath(getCurrentPath(), tree));
     }
 
+    @Override
+    public Void scan(Tree tree, Void v) {
+        if (tree != null && NEVER.contains(tree.getKind())) held(6, "nowhere " + tree.getKind(), tree, false);
+        return super.scan(tree, v);
+    }
+
     // ---- rule 2: classes inside
 
     @Override
@@ -108,18 +118,6 @@ public final class TreeTests extends TreePathScanner<Void, Void> {
             held(5, "no block that begins a class", member, member.getKind() != Tree.Kind.BLOCK);
         }
         return super.visitClass(tree, v);
-    }
-
-    @Override
-    public Void visitLambdaExpression(LambdaExpressionTree tree, Void v) {
-        held(2, "no lambda", tree, false);
-        return super.visitLambdaExpression(tree, v);
-    }
-
-    @Override
-    public Void visitMemberReference(MemberReferenceTree tree, Void v) {
-        held(2, "no method reference", tree, false);
-        return super.visitMemberReference(tree, v);
     }
 
     // ---- rule 3: types
@@ -216,30 +214,6 @@ public final class TreeTests extends TreePathScanner<Void, Void> {
     // ---- rule 6: what is not used
 
     @Override
-    public Void visitThrow(ThrowTree tree, Void v) {
-        held(6, "no throw", tree, false);
-        return super.visitThrow(tree, v);
-    }
-
-    @Override
-    public Void visitTry(TryTree tree, Void v) {
-        held(6, "no try", tree, false);
-        return super.visitTry(tree, v);
-    }
-
-    @Override
-    public Void visitSynchronized(SynchronizedTree tree, Void v) {
-        held(6, "no synchronized", tree, false);
-        return super.visitSynchronized(tree, v);
-    }
-
-    @Override
-    public Void visitAssert(AssertTree tree, Void v) {
-        held(6, "no assert", tree, false);
-        return super.visitAssert(tree, v);
-    }
-
-    @Override
     public Void visitTypeCast(TypeCastTree tree, Void v) {
         held(6, "a cast to a number", tree, isNumber(typeOf(tree.getType())) && isNumber(typeOf(tree.getExpression())));
         return super.visitTypeCast(tree, v);
@@ -323,12 +297,6 @@ public final class TreeTests extends TreePathScanner<Void, Void> {
     public Void visitWhileLoop(WhileLoopTree tree, Void v) {
         held(9, "a counter against a bound", tree, hasBound(tree.getCondition()));
         return super.visitWhileLoop(tree, v);
-    }
-
-    @Override
-    public Void visitDoWhileLoop(DoWhileLoopTree tree, Void v) {
-        held(9, "a counter against a bound", tree, hasBound(tree.getCondition()));
-        return super.visitDoWhileLoop(tree, v);
     }
 
     // ---- rules 8, 11 and 12: who calls whom
